@@ -562,11 +562,11 @@ public final class HandLock {
             return BAD;
         }
         Sheet sheet = sheets[k];
-        int found = sheet.castFault(lane);
+        int found = 0;
         int sound = 0;
         // All are looked at before any is tried: a BAD one leaves all as it was.
         for (int i = 0; i < n && found == 0; i++) {
-            found = sheet.faultAt(f + i);
+            found = sheet.faultAs(lane, f + i);
             if (found == 0) {
                 if (!now.hasAll(sheet.cells[f + i])) {
                     return -20 - i;
@@ -968,17 +968,17 @@ public final class HandLock {
             Arrays.fill(cells, 0);
         }
 
-        /** What the machine finds when the SHEET is taken as of a lane; nothing may be taken as of any. */
-        int castFault(int asLane) {
-            return there && lane != asLane ? CAST_FAULT : 0;
-        }
-
         /** What the machine finds when a CELL is asked for. */
         int faultAt(int i) {
             if (!there) {
                 return NULL_FAULT;
             }
             return i < 0 || i >= size ? INDEX_FAULT : 0;
+        }
+
+        /** Likewise of the SHEET taken as of a lane; nothing may be taken as of any. */
+        int faultAs(int asLane, int i) {
+            return there && lane != asLane ? CAST_FAULT : faultAt(i);
         }
 
         void write(int i, int v) {

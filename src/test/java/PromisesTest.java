@@ -971,10 +971,17 @@ public final class PromisesTest {
         due("torn: CAST ahead of INDEX", x.torn(), 3);
         x.read(1, 1, 9, 0);
         due("torn: nothing is read, no INDEX", x.torn(), 0);
-        x.read(1, 0, 9, 0);
-        due("torn: taken as of another lane all the same", x.torn(), 3);
-        x.read(0, 0, 9, 0);
-        due("torn: nothing is read of nothing", x.torn(), 0);
+        x.read(1, 0, 0, 1);
+        due("torn: CAST ahead of a CELL that there is", x.torn(), 3);
+        for (int lane = 0; lane <= 2; lane++) {
+            x.read(1, 1, 9, 1);
+            due("torn: of no TRY, lane " + lane + ": a FAULT ahead of it", x.torn(), 2);
+            due("read of no TRY, lane " + lane, x.read(1, lane, 9, 0), 0);
+            due("torn: of no TRY, lane " + lane, x.torn(), 0);
+            x.read(1, 1, 9, 1);
+            due("read of no TRY of nothing, lane " + lane, x.read(0, lane, -1, 0), 0);
+            due("torn: of no TRY of nothing, lane " + lane, x.torn(), 0);
+        }
         x.text();
         x.read(1, 1, -1, 1);
         due("torn: INDEX below 0", x.torn(), 2);

@@ -731,20 +731,12 @@ final class Model {
     private List<Integer> cells(Object sheet, int lane, int f, int n, int[] found) {
         List<Integer> cells = new ArrayList<>();
         try {
-            if (lane == 0) {
-                byte[] row = (byte[]) sheet;
-                for (int i = 0; i < n; i++) {
-                    cells.add((int) row[f + i]);
-                }
-            } else if (lane == 1) {
-                short[] row = (short[]) sheet;
-                for (int i = 0; i < n; i++) {
-                    cells.add((int) row[f + i]);
-                }
-            } else {
-                int[] row = (int[]) sheet;
-                for (int i = 0; i < n; i++) {
-                    cells.add(row[f + i]);
+            // The SHEET is taken as of its lane for each TRY anew: with no TRY the machine refuses nothing.
+            for (int i = 0; i < n; i++) {
+                switch (lane) {
+                    case 0: cells.add((int) ((byte[]) sheet)[f + i]); break;
+                    case 1: cells.add((int) ((short[]) sheet)[f + i]); break;
+                    default: cells.add(((int[]) sheet)[f + i]); break;
                 }
             }
         } catch (NullPointerException e) {
