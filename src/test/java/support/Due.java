@@ -45,6 +45,11 @@ final class Due {
 
     /** All that can be asked without a choice: two locks that answer the same are as like as can be seen. */
     static String picture(HandLock lock) {
+        return standing(lock) + ' ' + lock.fault() + ' ' + lock.torn();
+    }
+
+    /** Likewise without the latest FAULTS. */
+    static String standing(HandLock lock) {
         StringBuilder all = new StringBuilder();
         for (int what = 0; what <= 6; what++) {
             all.append(lock.rule(what)).append(' ');
@@ -63,8 +68,7 @@ final class Due {
         for (int what = 0; what <= 5; what++) {
             all.append(lock.count(what)).append(' ');
         }
-        all.append('|').append(lock.slacks()).append(' ').append(lock.fault()).append(' ').append(lock.torn());
-        return all.toString();
+        return all.append('|').append(lock.slacks()).toString();
     }
 
     static void finish() {
