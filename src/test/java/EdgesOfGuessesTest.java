@@ -235,6 +235,7 @@ public final class EdgesOfGuessesTest {
         }
     }
 
+    /** COUNTS (0 to 20), whatever the COUNT is now. */
     private static void countsOfNothingSeen() {
         HandLock x = Due.told("plain 99 0;child 50 0;plan 3;");
         countsAre("nothing SEEN", x, 0, 21, 0, 20);
@@ -261,6 +262,7 @@ public final class EdgesOfGuessesTest {
         countsAre("beyond", y, 0, 5, 16, 20);
     }
 
+    /** COUNT: that of the HAND it uses; all else as it is. */
     private static void countsByTheHandInUse() {
         HandLock x = Due.told("child 0 77;child 4 0;left 0;slack 0;plan 3;");
         x.see(0, 0);

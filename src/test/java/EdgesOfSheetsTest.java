@@ -110,6 +110,7 @@ public final class EdgesOfSheetsTest {
         due("a text that is taken: IMAGES are gone", x.back(0), STATE);
     }
 
+    /** IMAGE k is .. THE PLAN: full and empty. */
     private static void imagesOfAFullPlan() {
         HandLock x = Due.told("plain 0 0;plan 1 0 1 0 1 0 1 0;");
         x.keep(0);

@@ -92,6 +92,7 @@ public final class EdgesOfTriesTest {
         due("nobody: text()", x.text(), 0);
     }
 
+    /** 0: a REST: an ACT that needs no ONE. */
     private static void nobodyAndAPlanOfRests() {
         HandLock x = new HandLock();
         for (int n = 1; n <= 8; n++) {
@@ -223,6 +224,7 @@ public final class EdgesOfTriesTest {
         due("all COUNTS are 0 still", x.count(4), 0);
     }
 
+    /** Likewise (0 at least) by what only looks ahead. */
     private static void countsStopAt0InThePlan() {
         HandLock x = Due.told("plain 1 0;plain 2 0;slack 0;plan 0 0 0 1 2;");
         answers("three RESTS", x, "runs", new int[] {2, 3, NONE, 1});
@@ -337,6 +339,7 @@ public final class EdgesOfTriesTest {
         due("TRIED 0 as at first", x.rule(2), 0);
     }
 
+    /** TRIED: how many TRIES there were (0 at first). */
     private static void triedIsOfTriesAlone() {
         HandLock x = Due.told("plain 0 0;plain 5 0;slack 0;plan 1 2 3;");
         due("TRIED at first", x.rule(2), 0);
